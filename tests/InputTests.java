@@ -13,6 +13,7 @@ final class InputTests {
         lengthOutOfBounds();
         textWithError();
         loadForgetsTheHouseBefore();
+        loadForgetsTheTextBefore();
     }
 
     private static void newObject() {
@@ -120,5 +121,30 @@ final class InputTests {
         Check.same("P3 no keeper before", lodgers.previousKeeper(), WatchLodgers.NONE);
         Check.same("P3 entry gone", lodgers.rostered(0, 0), WatchLodgers.NONE);
         Check.that("P3 present", lodgers.isPresent(0));
+    }
+
+    /** A refused text leaves nothing to the next one, wherever it stopped. */
+    private static void loadForgetsTheTextBefore() {
+        WatchLodgers lodgers = new WatchLodgers();
+        Check.noArgument("P3 refused", () -> Check.load(lodgers, "house 9 50 20;lodger a 0 30 3 200;roster 0 0 0;"
+                + "gale 7;watches 7;exempt 0 3;meals 50;gulls 9;repeat 3(repeat 3(watches 1;zap"));
+        Check.same("P4 refused", lodgers.parseError(), 1);
+        Check.load(lodgers, "house 2 1 1;lodger c 0 30 0 0");
+        Check.same("P4 a success after an error", lodgers.parseError(), 0);
+        Check.same("P5 a success after an error", lodgers.errorPosition(), WatchLodgers.NONE);
+        int left = lodgers.watchesPassed() + lodgers.meals() + lodgers.gulls() + lodgers.fund() + lodgers.storm(3)
+                + lodgers.darkWatches() + lodgers.substitutions() + lodgers.rosterSize() + lodgers.exemptionCount()
+                + lodgers.coins(0) + lodgers.debt(0) + lodgers.watchesOf(0) + lodgers.watchesToday(0)
+                + lodgers.inconsistencies() + lodgers.undoable();
+        Check.same("P3 nothing left of the text before", left, 0);
+        Check.same("P3 no keeper before", lodgers.previousKeeper(), WatchLodgers.NONE);
+        Check.same("P3 no obstacle", lodgers.obstacle(0), 0);
+        Check.noArgument("P3 refused", () -> Check.load(lodgers, "house 2 1 1;lodger c 0 30 0 0;repeat 3(tidy"));
+        Check.noArgument("P3 a bracket of another text", () -> Check.load(lodgers, "house 2 1 1;lodger c 0 30 0 0)"));
+        Check.same("P5 a bracket of another text", lodgers.errorPosition(), 29);
+        Check.noArgument("P3 sick", () -> Check.load(lodgers, "house 2 50 0;lodger a 0 0 0 0;watches 8;zap"));
+        Check.load(lodgers, "house 2 1 1;lodger c 0 30 0 0");
+        Check.that("P3 present", lodgers.isPresent(0));
+        Check.same("P3 not sick", lodgers.obstacle(0), 0);
     }
 }

@@ -84,11 +84,36 @@ final class PredictionTests {
         // two lodgers on the top floor keep two watches a day at 1 each and eat 6: never dark while meals last
         String kept = "house 2 0 0;lodger a 1 30 0 0;lodger b 1 30 0 0;repeat 9(repeat 9(meals 100))";
         Check.same("P48 none in 300", Check.loaded(kept).watchesUntilDark(), WatchLodgers.NONE);
-        // an exemption only of watch 2 on each day, with a storm and no other lodger at the very last watch
-        WatchLodgers last = Check.loaded(kept);
-        last.passWatches(60);
-        Check.same("P48 none after some", last.watchesUntilDark(), WatchLodgers.NONE);
-        Check.same("P48 the house does not change", last.watchesPassed(), 60);
+        WatchLodgers both = Check.loaded(TEXT);
+        both.darkAfter(300);
+        Check.same("P48 from now, not from another prediction", both.watchesUntilDark(), 4);
+        Check.same("P48 again", both.watchesUntilDark(), 4);
+        both.passWatches(1);
+        Check.same("P48 one watch later", both.watchesUntilDark(), 3);
+        Check.same("P48 the house does not change", both.watchesPassed(), 1);
+        untilDarkAfterExactly300();
+    }
+
+    /** Meals that last for more than 300 watches, and then the first dark one comes nearer watch by watch. */
+    private static void untilDarkAfterExactly300() {
+        WatchLodgers lodgers = Check.loaded("house 2 0 0;lodger a 1 30 0 0;lodger b 1 30 0 0;"
+                + "repeat 9(repeat 2(meals 100));watches 1");
+        int passed = 0;
+        while (lodgers.watchesUntilDark() == WatchLodgers.NONE && passed < 400) {
+            lodgers.passWatches(1);
+            passed++;
+        }
+        Check.that("more than 300 at first", passed > 0);
+        Check.same("P48 after exactly 300", lodgers.watchesUntilDark(), 300);
+        Check.same("P47 after 299", lodgers.darkAfter(299), 0);
+        Check.same("P47 after 300", lodgers.darkAfter(300), 1);
+        for (int call = 0; call < 5; call++) {
+            lodgers.passWatches(59);
+        }
+        lodgers.passWatches(4);
+        Check.same("the 299th is not dark", lodgers.darkWatches(), 0);
+        Check.same("P48 the next watch", lodgers.watchesUntilDark(), 1);
+        Check.same("the 300th is dark", lodgers.passWatches(1), 1);
     }
 
     private static void untilGone() {

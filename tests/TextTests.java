@@ -59,6 +59,9 @@ final class TextTests {
         lineError(1, "^\u00e9");
         lineError(1, "^\u0000");
         lineError(1, "tidy ^1");
+        lineError(1, "^xodger c 0 5 0 0");
+        lineError(1, "^tidx");
+        lineError(1, "^tid");
     }
 
     private static void header() {
@@ -75,6 +78,8 @@ final class TextTests {
         error(1, "house 2 50 20 ^lodger");
         error(1, "house 2 50 20 ^)");
         error(1, "house 2 50 20;^house 2 50 20");
+        error(1, "house 3 6 2^(lodger a 0 5 0 9");
+        error(1, "house 3 6 2^.lodger a 0 5 0 9");
         Check.same("greatest floors", Check.loaded("house 9 50 20;lodger a 8 30 3 200").floors(), 9);
         Check.same("greatest rent", Check.loaded("house 9 50 20;lodger a 8 30 3 200").rent(), 50);
         Check.same("greatest wage", Check.loaded("house 9 50 20;lodger a 8 30 3 200").wage(), 20);
@@ -88,7 +93,10 @@ final class TextTests {
         error(2, "house 3 6 2;lodger a 2 ^31 0 9");
         error(2, "house 3 6 2;lodger a 2 30 ^4 9");
         error(2, "house 3 6 2;lodger a 2 30 3 ^201");
+        lineError(3, "lodger ^a 0 5 0 9");
         lineError(3, "lodger ^b 0 5 0 9");
+        lineError(1, "lodger ^; 0 5 0 9");
+        Check.same("a name that begins like another", with("lodger ab 0 5 0 9;lodger ba 0 5 0 9").lodgerCount(), 4);
         lineError(1, "lodger c 0 5 0^");
         lineError(1, "lodger c 0 5 0 9 ^9");
         WatchLodgers words = Check.loaded("house 3 6 2;lodger lodger 0 5 0 9;lodger house 1 5 0 9;lodger repeat 2 5 0 9");
@@ -143,6 +151,8 @@ final class TextTests {
         Check.same("no storm", lodgers.storm(0), 0);
         Check.same("meals are added", lodgers.meals(), 101);
         Check.same("gulls are set", lodgers.gulls(), 20);
+        Check.same("gale of 0", with("gale 4;gale 0").storm(6), 0);
+        Check.same("no gulls", with("gulls 4;gulls 0").gulls(), 0);
         lineError(2, "storm ^7 0");
         lineError(2, "storm 0 ^10");
         lineError(2, "gale ^10");
@@ -166,6 +176,7 @@ final class TextTests {
         Check.same("lent to", lodgers.coins(1), 4);
         Check.same("nothing is owed", lodgers.debt(1), 0);
         Check.same("lending is consistent", lodgers.inconsistencies(), 0);
+        Check.same("moved to the bottom", with("move 1 0").floorOf(1), 0);
         lineError(2, "blanket ^2");
         lineError(3, "blanket 1;blanket 1;blanket ^1");
         lineError(2, "move ^2 0");
@@ -200,6 +211,8 @@ final class TextTests {
         WatchLodgers ordered = with("roster 1 3 0;roster 1 1 1;copy 1 0");
         Check.same("copy in the order of the watches", ordered.entryAt(2), 1);
         Check.same("copy, the last watch", ordered.entryAt(3), 3);
+        Check.same("copy from the last weekday", with("roster 6 0 1;copy 6 0").rostered(0, 0), 1);
+        Check.same("copy to the last weekday", with("roster 0 0 1;copy 0 6").rostered(6, 0), 1);
         lineError(2, "copy ^7 0");
         lineError(2, "copy 0 ^7");
         lineError(3, "copy 3 ^3");
@@ -223,6 +236,8 @@ final class TextTests {
         Check.same("tidy keeps the order", tidied.entryAt(0), 13);
         Check.same("tidy keeps other watches", tidied.entryAt(1), 22);
         Check.same("tidy keeps exemptions", tidied.exemptionCount(), 1);
+        Check.same("tidy of the first and the last", with("roster 0 0 0;roster 6 3 1;exempt 0 0;exempt 1 3;tidy")
+                .rosterSize(), 0);
         WatchLodgers rotated = with("lodger c 0 5 0 0;roster 0 1 2;roster 0 0 0;roster 0 2 1;rotate");
         Check.same("rotate to the next", rotated.rostered(0, 0), 1);
         Check.same("rotate on", rotated.rostered(0, 2), 2);
@@ -252,6 +267,13 @@ final class TextTests {
         lineError(2, "repeat ^0(tidy)");
         lineError(2, "repeat ^10(tidy)");
         lineError(1, "repeat 2 ^tidy");
+        lineError(1, "repeat 2 ^;tidy)");
+        lineError(1, "repeat 2 ^)");
+        lineError(1, "repeat 2 ^[tidy)");
+        lineError(1, "repeat 2(tidy^(");
+        lineError(1, "repeat 2(tidy^]");
+        lineError(1, "repeat 2(tidy ^tidy)");
+        lineError(1, "tidy^(");
         lineError(1, "repeat 2(^)");
         lineError(1, "repeat 2(tidy;^)");
         lineError(1, "repeat 2(^;tidy)");
