@@ -11,6 +11,11 @@ public final class AllTests {
         DayTests.run();
         PredictionTests.run();
         ChangeTests.run();
+        HouseBoundaries.run();
+        WatchBoundaries.run();
+        TextBoundaries.run();
+        CallBoundaries.run();
+        AnswerBoundaries.run();
         ModelTests.run();
         System.out.println("AllTests: " + Check.passed + " checks hold, " + Check.failed + " do not");
         if (Check.failed > 0 || Check.passed == 0) {

@@ -78,6 +78,16 @@ final class Check {
         return lodgers;
     }
 
+    /** The text is refused; the mark ^ stands before the token that is at fault and is no part of the text. */
+    static void textError(int code, String marked) {
+        int position = marked.indexOf('^');
+        String text = marked.substring(0, position) + marked.substring(position + 1);
+        WatchLodgers lodgers = new WatchLodgers();
+        noArgument("'" + marked + "'", () -> load(lodgers, text));
+        same("parseError of '" + marked + "'", lodgers.parseError(), code);
+        same("errorPosition of '" + marked + "'", lodgers.errorPosition(), position);
+    }
+
     static String written(WatchLodgers lodgers, int length) {
         StringBuilder text = new StringBuilder();
         for (int index = 0; index < length; index++) {

@@ -21,18 +21,8 @@ final class TextTests {
         endOfText();
     }
 
-    /** The mark ^ stands before the token that is at fault and is no part of the text. */
-    private static void error(int code, String marked) {
-        int position = marked.indexOf('^');
-        String text = marked.substring(0, position) + marked.substring(position + 1);
-        WatchLodgers lodgers = new WatchLodgers();
-        Check.noArgument("'" + marked + "'", () -> Check.load(lodgers, text));
-        Check.same("parseError of '" + marked + "'", lodgers.parseError(), code);
-        Check.same("errorPosition of '" + marked + "'", lodgers.errorPosition(), position);
-    }
-
     private static void lineError(int code, String markedLine) {
-        error(code, HOUSE + ";" + markedLine);
+        Check.textError(code, HOUSE + ";" + markedLine);
     }
 
     private static WatchLodgers with(String lines) {
@@ -43,15 +33,15 @@ final class TextTests {
         WatchLodgers tight = Check.loaded("house3 6 2;lodger a0 5 0 9;roster0 0 0;repeat2(meals007)");
         Check.same("words and numbers need no space", tight.meals(), 14);
         Check.same("leading zeros", Check.loaded("  house 003  06 2 ; lodger a 0 005 0 9 ").floors(), 3);
-        error(1, "^House 3 6 2");
-        error(1, "house ^0003 6 2");
-        error(1, "house ^-3 6 2");
-        error(1, "house 3^\t6 2");
-        error(1, "house 3 6 2^,lodger a 0 5 0 9");
-        error(1, "^houses 3 6 2");
-        error(1, "^houseab 3 6 2");
-        error(1, "house 3 6 2;^lodgerab a 0 5 0 9");
-        error(1, "house 3 6 2;lodger ^abcdefgh 0 5 0 9");
+        Check.textError(1, "^House 3 6 2");
+        Check.textError(1, "house ^0003 6 2");
+        Check.textError(1, "house ^-3 6 2");
+        Check.textError(1, "house 3^\t6 2");
+        Check.textError(1, "house 3 6 2^,lodger a 0 5 0 9");
+        Check.textError(1, "^houses 3 6 2");
+        Check.textError(1, "^houseab 3 6 2");
+        Check.textError(1, "house 3 6 2;^lodgerab a 0 5 0 9");
+        Check.textError(1, "house 3 6 2;lodger ^abcdefgh 0 5 0 9");
         lineError(1, "meals ^1000");
         lineError(2, "meals ^999");
         lineError(1, "storm 0 ^;");
@@ -65,21 +55,21 @@ final class TextTests {
     }
 
     private static void header() {
-        error(1, "^hous");
-        error(1, "^3");
-        error(1, "house^");
-        error(1, "house ^a");
-        error(2, "house ^1 6 2");
-        error(2, "house ^10 6 2");
-        error(2, "house 2 ^51 2");
-        error(2, "house 2 50 ^21");
-        error(1, "house 2 50 ^;");
-        error(1, "house 2 50 20 ^1");
-        error(1, "house 2 50 20 ^lodger");
-        error(1, "house 2 50 20 ^)");
-        error(1, "house 2 50 20;^house 2 50 20");
-        error(1, "house 3 6 2^(lodger a 0 5 0 9");
-        error(1, "house 3 6 2^.lodger a 0 5 0 9");
+        Check.textError(1, "^hous");
+        Check.textError(1, "^3");
+        Check.textError(1, "house^");
+        Check.textError(1, "house ^a");
+        Check.textError(2, "house ^1 6 2");
+        Check.textError(2, "house ^10 6 2");
+        Check.textError(2, "house 2 ^51 2");
+        Check.textError(2, "house 2 50 ^21");
+        Check.textError(1, "house 2 50 ^;");
+        Check.textError(1, "house 2 50 20 ^1");
+        Check.textError(1, "house 2 50 20 ^lodger");
+        Check.textError(1, "house 2 50 20 ^)");
+        Check.textError(1, "house 2 50 20;^house 2 50 20");
+        Check.textError(1, "house 3 6 2^(lodger a 0 5 0 9");
+        Check.textError(1, "house 3 6 2^.lodger a 0 5 0 9");
         Check.same("greatest floors", Check.loaded("house 9 50 20;lodger a 8 30 3 200").floors(), 9);
         Check.same("greatest rent", Check.loaded("house 9 50 20;lodger a 8 30 3 200").rent(), 50);
         Check.same("greatest wage", Check.loaded("house 9 50 20;lodger a 8 30 3 200").wage(), 20);
@@ -87,12 +77,12 @@ final class TextTests {
     }
 
     private static void lodgerLines() {
-        error(1, "house 3 6 2;lodger ^1 0 5 0 9");
-        error(3, "house 3 6 2;lodger ^abcdefg 0 5 0 9");
-        error(2, "house 3 6 2;lodger a ^3 5 0 9");
-        error(2, "house 3 6 2;lodger a 2 ^31 0 9");
-        error(2, "house 3 6 2;lodger a 2 30 ^4 9");
-        error(2, "house 3 6 2;lodger a 2 30 3 ^201");
+        Check.textError(1, "house 3 6 2;lodger ^1 0 5 0 9");
+        Check.textError(3, "house 3 6 2;lodger ^abcdefg 0 5 0 9");
+        Check.textError(2, "house 3 6 2;lodger a ^3 5 0 9");
+        Check.textError(2, "house 3 6 2;lodger a 2 ^31 0 9");
+        Check.textError(2, "house 3 6 2;lodger a 2 30 ^4 9");
+        Check.textError(2, "house 3 6 2;lodger a 2 30 3 ^201");
         lineError(3, "lodger ^a 0 5 0 9");
         lineError(3, "lodger ^b 0 5 0 9");
         lineError(1, "lodger ^; 0 5 0 9");
@@ -106,8 +96,8 @@ final class TextTests {
             text.append(";lodger ").append(name).append(" 0 5 0 9");
         }
         Check.same("eight lodgers", Check.loaded(text.toString()).lodgerCount(), 8);
-        error(4, text + ";^lodger i 0 5 0 9");
-        error(4, text + ";^lodger a 0 5 0 9");
+        Check.textError(4, text + ";^lodger i 0 5 0 9");
+        Check.textError(4, text + ";^lodger a 0 5 0 9");
     }
 
     private static void rosterLines() {
@@ -120,7 +110,7 @@ final class TextTests {
         lineError(2, "roster ^7 0 0");
         lineError(2, "roster 0 ^4 0");
         lineError(2, "roster 0 0 ^2");
-        error(2, "house 3 6 2;roster 0 0 ^0");
+        Check.textError(2, "house 3 6 2;roster 0 0 ^0");
         lineError(1, "roster 0 0^");
         lineError(2, "clear ^7 0");
         lineError(2, "clear 0 ^4");
@@ -293,21 +283,21 @@ final class TextTests {
         lineError(3, "repeat 2(exempt 0 ^0)");
         lineError(1, "roster 0 0 0;repeat 2(clear 0 0 ^zap)");
         lineError(3, "repeat 2(repeat 5(lend 0 1 ^1))");
-        error(3, "house 3 6 2;repeat 9(lodger ^a 0 5 0 9)");
+        Check.textError(3, "house 3 6 2;repeat 9(lodger ^a 0 5 0 9)");
     }
 
     private static void goneLodgers() {
         // a pays the rent of 50 on days 0 to 3, b is gone after day 1 with a debt of 100
         String gone = "house 2 50 0;lodger a 0 9 0 200;lodger b 0 9 0 0;roster 3 0 1;exempt 1 0;exempt 1 1;exempt 1 2;"
                 + "exempt 1 3;exempt 0 0;exempt 0 1;exempt 0 2;exempt 0 3;roster 3 1 0;watches 8;";
-        error(3, gone + "roster 0 0 ^1");
-        error(3, gone + "exempt ^1 0");
-        error(3, gone + "exempt ^1 9");
-        error(3, gone + "release ^1 0");
-        error(3, gone + "move ^1 1");
-        error(3, gone + "pay ^1");
-        error(3, gone + "blanket ^1");
-        error(3, gone + "lodger ^b 0 0 0 0");
+        Check.textError(3, gone + "roster 0 0 ^1");
+        Check.textError(3, gone + "exempt ^1 0");
+        Check.textError(3, gone + "exempt ^1 9");
+        Check.textError(3, gone + "release ^1 0");
+        Check.textError(3, gone + "move ^1 1");
+        Check.textError(3, gone + "pay ^1");
+        Check.textError(3, gone + "blanket ^1");
+        Check.textError(3, gone + "lodger ^b 0 0 0 0");
         WatchLodgers lodgers = Check.loaded(gone + "lend 0 1 30;lend 1 0 10;meals 9;feast;rotate");
         Check.that("b is gone", !lodgers.isPresent(1));
         Check.same("a gone lodger borrows and lends", lodgers.coins(1), 20);
@@ -320,23 +310,23 @@ final class TextTests {
         Check.same("readmitted without a debt", back.debt(1), 0);
         Check.same("readmitted without the old exemptions", back.exemptionCount(), 5);
         Check.same("readmitted on the roster", back.rostered(0, 0), 1);
-        error(3, gone + "readmit 1;readmit ^1");
+        Check.textError(3, gone + "readmit 1;readmit ^1");
     }
 
     private static void endOfText() {
-        error(4, "house 3 6 2^");
-        error(4, "house 3 6 2   ^");
-        error(4, "house 3 6 2;tidy;gale 3^");
-        error(1, "house 3 6 2;^");
-        error(1, "house 3 6 2; ^");
-        error(1, "house 3 6^");
-        error(1, "^");
-        error(1, "   ^");
+        Check.textError(4, "house 3 6 2^");
+        Check.textError(4, "house 3 6 2   ^");
+        Check.textError(4, "house 3 6 2;tidy;gale 3^");
+        Check.textError(1, "house 3 6 2;^");
+        Check.textError(1, "house 3 6 2; ^");
+        Check.textError(1, "house 3 6^");
+        Check.textError(1, "^");
+        Check.textError(1, "   ^");
         lineError(1, "^");
         lineError(1, "repeat^");
         lineError(1, "repeat 2^");
         lineError(1, "repeat 2(^");
-        error(1, "house 3 6 2;repeat 2(tidy^");
+        Check.textError(1, "house 3 6 2;repeat 2(tidy^");
         lineError(1, "^zap");
         lineError(1, "^;");
         lineError(1, "^3");
