@@ -326,7 +326,6 @@ final class CallBoundaries {
             lodgers.bringMeals(1);
         }
         lodgers.passWatches(6);
-        Check.that("P3 all that is told of another house", !Snapshot.ofHouse(lodgers).isEmpty());
         Check.load(lodgers, TEXT);
         Check.same("P63 since load", lodgers.undoable(), 0);
         Check.noState("P62 since load", lodgers::undo);
@@ -335,6 +334,15 @@ final class CallBoundaries {
         Check.same("P3 a house as new", Snapshot.of(lodgers), Snapshot.of(Check.loaded(TEXT)));
         lodgers.bringMeals(1);
         Check.same("P62 a change since load", lodgers.undo(), 0);
+        for (int watches : new int[] {0, 1, 3, 4, 300}) {
+            WatchLodgers before = Check.loaded(TEXT);
+            before.energyAfter(0, watches);
+            Check.load(before, TEXT);
+            Check.same("P3 after a prediction of " + watches, Snapshot.of(before), Snapshot.of(Check.loaded(TEXT)));
+            before.passWatches(watches % 60 + 1);
+            Check.load(before, TEXT);
+            Check.same("P3 after " + watches, Snapshot.of(before), Snapshot.of(Check.loaded(TEXT)));
+        }
     }
 
     /** "since the last successful call of .. restore()": "The state remains saved, and nothing can be undone afterwards." */

@@ -283,6 +283,11 @@ final class TextBoundaries {
         Check.textError(2, "house 2 0 0;roster 0 0 ^0;lodger a 0 0 0 0");
         lineError(3, "clear 0 ^0;roster 0 0 0");
         Check.textError(4, "house 2 0 0;gale 9;watches 60^");
+        WatchLodgers late = Check.loaded("house 2 0 0;meals 9;gulls 2;watches 5;lodger a 1 30 0 0;watches 1");
+        Check.same("S5 watches before the first lodger are dark", late.darkWatches(), 5);
+        Check.same("S5 days before the first lodger", late.meals(), 7);
+        Check.same("S5 a lodger of day 1", late.watchesOf(0), 1);
+        Check.same("S5 consistent", late.inconsistencies(), 0);
     }
 
     /** ""roster" sets the lodger of an entry and creates the entry if it does not exist; "clear" removes an entry." */
