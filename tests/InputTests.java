@@ -14,6 +14,20 @@ final class InputTests {
         textWithError();
         loadForgetsTheHouseBefore();
         loadForgetsTheTextBefore();
+        exampleOfReadme();
+    }
+
+    /** The lines that README.md shows, with what it says of them. */
+    private static void exampleOfReadme() {
+        WatchLodgers lodgers = new WatchLodgers();
+        lodgers.append(0x686f7573, 0x65203220, 0x3020303b, 0x6c6f6467, 0x65722061);
+        lodgers.append(0x20312033, 0x30203020, 0x39202020, 0x20202020, 0x20202020);
+        Check.same("README load", lodgers.load(40), 1);
+        Check.same("README nextKeeper", lodgers.nextKeeper(), 0);
+        Check.same("README passWatches", lodgers.passWatches(4), 2);
+        Check.same("README a day", lodgers.day(), 1);
+        Check.same("README undo", lodgers.undo(), 0);
+        Check.same("README taken back", lodgers.watchesPassed(), 0);
     }
 
     private static void newObject() {
